@@ -25,11 +25,11 @@ final class Games {
         return game;
     }
 
-    /** Types a word, each run of like inputs by one call. */
+    /** Types a word, each run of at most twenty like inputs by one call. */
     static Ghostracer type(Ghostracer game, String word) {
         int from = 0;
         for (int i = 1; i <= word.length(); i++) {
-            if (i == word.length() || word.charAt(i) != word.charAt(from)) {
+            if (i == word.length() || word.charAt(i) != word.charAt(from) || i - from == 20) {
                 game.type(word.charAt(from), i - from);
                 from = i;
             }

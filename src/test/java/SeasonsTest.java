@@ -127,7 +127,7 @@ public final class SeasonsTest {
         Check.due("the later lap is behind", 2, tied, g -> g.placeIn(0, 0));
     }
 
-    /** All six drivers, the fastest being 5, 3, 1, 0, 2 and 4; '=' ahead of a lap is a tick more. */
+    /** All six drivers: 5 is the fastest, then 3, 1, 0, 2 and 4. */
     private static Ghostracer six() {
         Ghostracer game = Games.five();
         game.round(0);

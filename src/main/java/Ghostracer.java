@@ -23,6 +23,8 @@ public final class Ghostracer {
     private static final int MOST_DROPPED = 3;
     private static final int NONE = -1;
     private static final int[] POINTS = {10, 8, 6, 5, 4, 3};
+    // More than a round can bring, so that a score that was taken is never the least.
+    private static final int TAKEN = 100;
 
     private final Track[] tracks = new Track[TRACKS];
     private int trackCount;
@@ -809,7 +811,7 @@ public final class Ghostracer {
                 }
             }
             int least = scores[found];
-            scores[found] = Integer.MAX_VALUE;
+            scores[found] = TAKEN;
             return least;
         }
 

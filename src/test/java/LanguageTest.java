@@ -14,7 +14,7 @@ public final class LanguageTest {
         "->", "::", "\\bpackage\\b", "\\b(try|catch|finally|synchronized|assert)\\b",
         "\\b(equals|hashCode|toString)\\b", "\\bSystem\\.", "\\bThread\\b", "\\w+Exact\\b",
         "\\bstatic \\{", "\\bInteger\\.valueOf\\b", "\\b(HashMap|Map|Set|Random|Object)\\b",
-        "\"\\s*\\+", "\\+\\s*\"", "\\bvar\\b", "\\bprotected\\b",
+        "\\b(Integer|Long)\\.[A-Z]", "\"\\s*\\+", "\\+\\s*\"", "\\bvar\\b", "\\bprotected\\b",
     };
 
     public static void main(String[] args) throws IOException {

@@ -12,15 +12,28 @@ final class Tell {
     static List<Check.Call> all() {
         List<Check.Call> tellings = new ArrayList<>();
         tellings.add(Tell::tracks);
+        for (int i = 0; i < 4; i++) {
+            int track = i;
+            tellings.add(g -> limits(g, track));
+        }
         tellings.add(Tell::cars);
+        tellings.add(Tell::typed);
         tellings.add(Tell::laps);
-        tellings.add(Tell::inputs);
+        tellings.add(Tell::store);
+        for (int i = 0; i < 30; i += 5) {
+            int first = i;
+            tellings.add(g -> inputs(g, first));
+        }
+        tellings.add(Tell::figures);
         tellings.add(Tell::seasons);
         return tellings;
     }
 
-    private static void add(StringBuilder told, Ghostracer game, Check.Call call) {
-        told.append(Check.answerOf(game, call)).append(' ');
+    /** Tells what the call answers, and whether it throws nothing. */
+    private static boolean add(StringBuilder told, Ghostracer game, Check.Call call) {
+        String answer = Check.answerOf(game, call);
+        told.append(answer).append(' ');
+        return !answer.startsWith("throws.");
     }
 
     private static String tracks(Ghostracer game) {
@@ -29,16 +42,22 @@ final class Tell {
             int track = i;
             add(told, game, g -> g.lengthOf(track));
             add(told, game, g -> g.least(track));
-            for (int j = 0; j < 40; j++) {
-                int place = j;
-                add(told, game, g -> g.limitAt(track, place));
-            }
             for (int j = 0; j < 13; j++) {
                 add(told, game, g -> g.stretch(track, 1, 1));
             }
         }
         for (int i = 0; i < 5; i++) {
             add(told, game, g -> g.track());
+        }
+        return told.toString();
+    }
+
+    private static String limits(Ghostracer game, int track) {
+        StringBuilder told = new StringBuilder();
+        boolean isPlace = true;
+        for (int i = 0; isPlace && i <= 360; i++) {
+            int place = i;
+            isPlace = add(told, game, g -> g.limitAt(track, place));
         }
         return told.toString();
     }
@@ -57,7 +76,10 @@ final class Tell {
         for (int i = 0; i < 4; i++) {
             int car = i;
             add(told, game, g -> g.type('+', 20));
-            add(told, game, g -> g.tryOut(0, car));
+            for (int j = 0; j < 4; j++) {
+                int track = j;
+                add(told, game, g -> g.tryOut(track, car));
+            }
             add(told, game, g -> g.wipe());
         }
         for (int i = 0; i < 5; i++) {
@@ -75,6 +97,14 @@ final class Tell {
             for (char what : "dtcgr".toCharArray()) {
                 add(told, game, g -> g.of(lap, what));
             }
+        }
+        return told.toString();
+    }
+
+    private static String store(Ghostracer game) {
+        StringBuilder told = new StringBuilder();
+        for (int i = 0; i < 31; i++) {
+            int lap = i;
             add(told, game, g -> g.base(lap));
             add(told, game, g -> g.depth(lap));
             add(told, game, g -> g.parts(lap));
@@ -85,18 +115,47 @@ final class Tell {
         return told.toString();
     }
 
-    private static String inputs(Ghostracer game) {
+    /** The inputs that are typed, and the open round, as far as laps can be made to show them. */
+    private static String typed(Ghostracer game) {
         StringBuilder told = new StringBuilder();
-        for (int i = 0; i < 30; i++) {
+        boolean isRoom = true;
+        for (int i = 0; isRoom && i <= 60; i++) {
+            isRoom = add(told, game, g -> g.type('+', 1));
+        }
+        int lap = game.laps();
+        add(told, game, g -> g.tryOut(0, 0));
+        add(told, game, g -> g.drive(0, 0, 0, -1));
+        tellInputs(told, game, lap);
+        add(told, game, g -> g.of(lap, 'r'));
+        add(told, game, g -> g.type('+', 20));
+        add(told, game, g -> g.drive(0, 1, 1, -1));
+        add(told, game, g -> g.of(lap + 1, 'r'));
+        return told.toString();
+    }
+
+    private static void tellInputs(StringBuilder told, Ghostracer game, int lap) {
+        boolean isInput = true;
+        for (int i = 0; isInput && i <= 60; i++) {
+            int tick = i;
+            isInput = add(told, game, g -> g.inputAt(lap, tick));
+        }
+    }
+
+    private static String inputs(Ghostracer game, int first) {
+        StringBuilder told = new StringBuilder();
+        for (int i = first; i < first + 5; i++) {
             int lap = i;
             add(told, game, g -> g.ticks(lap));
             add(told, game, g -> g.time(lap, false));
             add(told, game, g -> g.replay(lap, 3, false));
-            for (int j = 0; j < 6; j++) {
-                int tick = j;
-                add(told, game, g -> g.inputAt(lap, tick));
-            }
+            add(told, game, g -> g.beats(lap));
+            tellInputs(told, game, lap);
         }
+        return told.toString();
+    }
+
+    private static String figures(Ghostracer game) {
+        StringBuilder told = new StringBuilder();
         add(told, game, g -> g.stored());
         add(told, game, g -> g.checksum());
         add(told, game, g -> g.shareStored());

@@ -33,14 +33,6 @@ public final class TracksAndCarsTest {
                 g -> g.lengthOf(0));
     }
 
-    private static Ghostracer fourTracks() {
-        Ghostracer game = new Ghostracer();
-        for (int i = 0; i < 4; i++) {
-            game.track();
-        }
-        return game;
-    }
-
     private static void track() {
         Ghostracer game = new Ghostracer();
         for (int i = 0; i < 4; i++) {
@@ -48,11 +40,11 @@ public final class TracksAndCarsTest {
             int number = i;
             Check.due("a new track is empty", 0, game, g -> g.lengthOf(number));
         }
-        Check.refused("a fifth track", Check.STATE, TracksAndCarsTest::fourTracks, g -> g.track());
+        Check.refused("a fifth track", Check.STATE, Games::fourTracks, g -> g.track());
     }
 
     private static void stretch() {
-        Ghostracer game = fourTracks();
+        Ghostracer game = Games.fourTracks();
         Check.due("the shortest and slowest", 1, game, g -> g.stretch(3, 1, 1));
         Check.due("the longest and fastest", 31, game, g -> g.stretch(3, 30, 9));
         Check.due("behind the others", 36, game, g -> g.stretch(3, 5, 4));
@@ -124,14 +116,6 @@ public final class TracksAndCarsTest {
                 TracksAndCarsTest::twelveStretchesDriven, g -> g.stretch(0, 2, 3));
     }
 
-    private static Ghostracer fourCars() {
-        Ghostracer game = Games.five();
-        for (int i = 0; i < 3; i++) {
-            game.car(9, 4, 3);
-        }
-        return game;
-    }
-
     private static void car() {
         Ghostracer game = new Ghostracer();
         Check.due("the least car", 0, game, g -> g.car(1, 1, 0));
@@ -151,7 +135,7 @@ public final class TracksAndCarsTest {
         Check.refused("pull 5", Check.ARGUMENT, none, g -> g.car(9, 5, 0));
         Check.refused("grip -1", Check.ARGUMENT, none, g -> g.car(1, 1, -1));
         Check.refused("grip 4", Check.ARGUMENT, none, g -> g.car(9, 4, 4));
-        Check.Setup full = TracksAndCarsTest::fourCars;
+        Check.Setup full = Games::fourCars;
         Check.refused("a fifth car", Check.STATE, full, g -> g.car(9, 4, 3));
         Check.refused("numbers ahead of four", Check.ARGUMENT, full, g -> g.car(9, 4, 4));
     }
@@ -161,8 +145,8 @@ public final class TracksAndCarsTest {
         Check.due("length", 16, game, g -> g.lengthOf(0));
         Check.refused("track below", Check.INDEX, Games::bend, g -> g.lengthOf(-1));
         Check.refused("track beyond", Check.INDEX, Games::bend, g -> g.lengthOf(1));
-        Check.due("the fourth track", 0, fourTracks(), g -> g.lengthOf(3));
-        Check.due("never a fifth track", Check.INDEX, fourTracks(), g -> g.lengthOf(4));
+        Check.due("the fourth track", 0, Games.fourTracks(), g -> g.lengthOf(3));
+        Check.due("never a fifth track", Check.INDEX, Games.fourTracks(), g -> g.lengthOf(4));
     }
 
     private static void limitAt() {
@@ -175,7 +159,7 @@ public final class TracksAndCarsTest {
         Check.refused("below the first", Check.NO_ELEMENT, Games::bend, g -> g.limitAt(0, -1));
         Check.refused("track below", Check.INDEX, Games::bend, g -> g.limitAt(-1, 0));
         Check.refused("track ahead of place", Check.INDEX, Games::bend, g -> g.limitAt(1, -1));
-        Check.due("an empty track has no place", Check.NO_ELEMENT, fourTracks(),
+        Check.due("an empty track has no place", Check.NO_ELEMENT, Games.fourTracks(),
                 g -> g.limitAt(0, 0));
     }
 }

@@ -47,12 +47,18 @@ final class Check {
 
     /** The call throws, and the game tells the same afterwards as one that was spared the call. */
     static void refused(String what, String want, Setup setup, Call call) {
+        due(what, want, setup.make(), call);
+        unchanged(what, setup, call);
+    }
+
+    /** The game tells the same behind the call as one that was spared it. */
+    static void unchanged(String what, Setup setup, Call call) {
         List<Call> tellings = Tell.all();
         for (int i = 0; i < tellings.size(); i++) {
-            Ghostracer refusing = setup.make();
-            due(what, want, refusing, call);
+            Ghostracer called = setup.make();
+            answerOf(called, call);
             String before = answerOf(setup.make(), tellings.get(i));
-            String after = answerOf(refusing, tellings.get(i));
+            String after = answerOf(called, tellings.get(i));
             same(what + " changes nothing, telling " + i, before, after);
         }
     }

@@ -274,6 +274,18 @@ final class EdgesOfDriving {
             game.strike(29);
             return game;
         }, g -> g.drive(0, 0, 0, 28));
+        Check.Setup another = () -> {
+            Ghostracer two = full.make();
+            two.track();
+            two.stretch(1, 5, 9);
+            return two;
+        };
+        thrown.refuses("a thirty-first on a track without laps", another,
+                g -> g.drive(0, 1, 0, -1));
+        thrown.due("which can have stretches still", 8, another.make(), g -> {
+            Check.answerOf(g, h -> h.drive(0, 1, 0, -1));
+            return g.stretch(1, 3, 9);
+        });
         Ghostracer game = Games.five();
         for (int i = 0; i < 29; i++) {
             Games.drive(game, "+++++", 0, -1);

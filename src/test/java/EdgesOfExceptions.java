@@ -15,6 +15,7 @@ final class EdgesOfExceptions {
         firstOfTheSteward();
         firstOfSeasons();
         changesNothing();
+        askingChangesNothing();
         manyCalls();
     }
 
@@ -201,6 +202,28 @@ final class EdgesOfExceptions {
             String want = Check.answerOf(Games.busy(), calls.get(i));
             nothing.refusesBy("refused call " + i, want, Games::busy, calls.get(i));
         }
+    }
+
+    /** What asks alone is no state change that the document describes. */
+    private static void askingChangesNothing() {
+        Check.Call[] asking = {g -> g.lengthOf(0), g -> g.limitAt(1, 6), g -> g.tryOut(0, 1),
+            g -> g.laps(), g -> g.time(4, true), g -> g.ticks(4), g -> g.inputAt(4, 1),
+            g -> g.replay(4, 2, false), g -> g.of(4, 'r'), g -> g.beats(3), g -> g.least(1),
+            g -> g.base(3), g -> g.depth(3), g -> g.parts(3), g -> g.stored(), g -> g.resting(0),
+            g -> g.stands(2), g -> g.lapIn(1, 3), g -> g.placeIn(0, 1), g -> g.points(0),
+            g -> g.wins(0), g -> g.standing(0), g -> g.checksum(), g -> g.shareStored(),
+            g -> g.meanTime(), g -> g.isSound()};
+        for (int i = 0; i < asking.length; i++) {
+            boolean isRefused = Check.answerOf(Games.busy(), asking[i]).startsWith("throws.");
+            Check.same("question " + i + " is refused", false, isRefused);
+            Check.unchanged("question " + i, Games::busy, asking[i]);
+        }
+        Check.unchanged("all questions", Games::busy, g -> {
+            for (Check.Call call : asking) {
+                call.answer(g);
+            }
+            return "";
+        });
     }
 
     /** The last of the 512 calls is a call as all others are. */

@@ -82,6 +82,10 @@ final class EdgesOfSeasons {
             Games.drive(g, "+====", 0, -1);
             return g.of(0, 'r');
         });
+        shuts.due("as many rounds are dropped as before", 1, Games.busy(), g -> {
+            g.shut();
+            return g.drop(0);
+        });
         shuts.due("its laps stay its own", 29, Games.ladder(), g -> {
             g.shut();
             return g.lapIn(9, 5);

@@ -24,6 +24,26 @@ final class Check {
         Ghostracer make();
     }
 
+    /** Some checks of a test. */
+    interface Part {
+        void check();
+    }
+
+    /** Makes each part's checks; one whose game can't be made is told, and the others go on. */
+    static void parts(Part... parts) {
+        for (Part part : parts) {
+            try {
+                part.check();
+            } catch (RuntimeException e) {
+                broken++;
+                System.out.println("a part broke off: " + e);
+                for (StackTraceElement at : e.getStackTrace()) {
+                    System.out.println("    at " + at);
+                }
+            }
+        }
+    }
+
     static String answerOf(Ghostracer game, Call call) {
         try {
             return String.valueOf(call.answer(game));

@@ -7,23 +7,13 @@ final class EdgesOfDriving {
     }
 
     static void check() {
-        type();
-        typeEachTimes();
-        typeEverySign();
-        typeIsRefused();
-        wipe();
-        drive();
-        driveNumbers();
-        driveWithoutGhost();
-        driveIsOver();
-        driveThirty();
-        tryOut();
-        tryOutIsRefused();
-        begins();
-        speeds();
-        slides();
-        ends();
-        endsJust();
+        Check.parts(EdgesOfDriving::type, EdgesOfDriving::typeEachTimes,
+                EdgesOfDriving::typeEverySign, EdgesOfDriving::typeIsRefused, EdgesOfDriving::wipe,
+                EdgesOfDriving::drive, EdgesOfDriving::driveNumbers,
+                EdgesOfDriving::driveWithoutGhost, EdgesOfDriving::driveIsOver,
+                EdgesOfDriving::driveThirty, EdgesOfDriving::tryOut,
+                EdgesOfDriving::tryOutIsRefused, EdgesOfDriving::begins, EdgesOfDriving::speeds,
+                EdgesOfDriving::slides, EdgesOfDriving::ends, EdgesOfDriving::endsJust);
     }
 
     static Ghostracer typed(int count) {
@@ -374,6 +364,11 @@ final class EdgesOfDriving {
     private static void speeds() {
         Sentence speeds = Sentence.ofTerms("By '+' the speed is the pull more, at most the top"
                 + " speed, by '-' the pull less, at least 0.");
+        speeds.due("'-' at the speed 0", 200, Games.type(Games.lapOn(1, 1, 1, "+"), "-+"),
+                g -> g.tryOut(0, 0));
+        // By 2, 3, 1, 0 and 2 the car is at 8.
+        speeds.due("'-' at a speed below the pull", 500,
+                Games.type(Games.lapOn(8, 3, 2, "++++"), "++--+"), g -> g.tryOut(0, 0));
         Sentence places = Sentence.ofTerms("Then the place is the speed more.");
         for (int i = 0; i < 36; i++) {
             int top = 1 + i / 4;

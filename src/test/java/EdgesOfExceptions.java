@@ -7,16 +7,11 @@ final class EdgesOfExceptions {
     }
 
     static void check() {
-        firstOfTracks();
-        firstOfTyping();
-        firstOfDriving();
-        firstOfTrying();
-        firstOfLaps();
-        firstOfTheSteward();
-        firstOfSeasons();
-        changesNothing();
-        askingChangesNothing();
-        manyCalls();
+        Check.parts(EdgesOfExceptions::firstOfTracks, EdgesOfExceptions::firstOfTyping,
+                EdgesOfExceptions::firstOfDriving, EdgesOfExceptions::firstOfTrying,
+                EdgesOfExceptions::firstOfLaps, EdgesOfExceptions::firstOfTheSteward,
+                EdgesOfExceptions::firstOfSeasons, EdgesOfExceptions::changesNothing,
+                EdgesOfExceptions::askingChangesNothing, EdgesOfExceptions::manyCalls);
     }
 
     private static Sentence first() {

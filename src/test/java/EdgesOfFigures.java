@@ -6,12 +6,9 @@ final class EdgesOfFigures {
     }
 
     static void check() {
-        checksum();
-        checksumWraps();
-        shareStored();
-        meanTime();
-        isSound();
-        isNotSound();
+        Check.parts(EdgesOfFigures::checksum, EdgesOfFigures::checksumWraps,
+                EdgesOfFigures::shareStored, EdgesOfFigures::meanTime, EdgesOfFigures::isSound,
+                EdgesOfFigures::isNotSound);
     }
 
     /** The sum that is due, without a bound, cut to a long at the end alone. */

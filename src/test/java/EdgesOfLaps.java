@@ -8,21 +8,11 @@ final class EdgesOfLaps {
     }
 
     static void check() {
-        laps();
-        time();
-        ticks();
-        inputAt();
-        replay();
-        replayToTheEnd();
-        of();
-        ofRounds();
-        ofIsRefused();
-        beats();
-        least();
-        termsOfInputs();
-        termsOfKeeping();
-        termsOfCounting();
-        termsOfBeating();
+        Check.parts(EdgesOfLaps::laps, EdgesOfLaps::time, EdgesOfLaps::ticks, EdgesOfLaps::inputAt,
+                EdgesOfLaps::replay, EdgesOfLaps::replayToTheEnd, EdgesOfLaps::of,
+                EdgesOfLaps::ofRounds, EdgesOfLaps::ofIsRefused, EdgesOfLaps::beats,
+                EdgesOfLaps::least, EdgesOfLaps::termsOfInputs, EdgesOfLaps::termsOfKeeping,
+                EdgesOfLaps::termsOfCounting, EdgesOfLaps::termsOfBeating);
     }
 
     /** One lap of the least time, 25, of one tick. */

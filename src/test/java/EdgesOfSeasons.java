@@ -10,21 +10,12 @@ final class EdgesOfSeasons {
     }
 
     static void check() {
-        round();
-        shut();
-        lapIn();
-        placeIn();
-        drop();
-        points();
-        wins();
-        standing();
-        termsOfRounds();
-        termsOfOpenRounds();
-        termsOfLaps();
-        termsOfPlaces();
-        termsOfDrops();
-        termsOfDropsWithoutLaps();
-        termsOfOrder();
+        Check.parts(EdgesOfSeasons::round, EdgesOfSeasons::shut, EdgesOfSeasons::lapIn,
+                EdgesOfSeasons::placeIn, EdgesOfSeasons::drop, EdgesOfSeasons::points,
+                EdgesOfSeasons::wins, EdgesOfSeasons::standing, EdgesOfSeasons::termsOfRounds,
+                EdgesOfSeasons::termsOfOpenRounds, EdgesOfSeasons::termsOfLaps,
+                EdgesOfSeasons::termsOfPlaces, EdgesOfSeasons::termsOfDrops,
+                EdgesOfSeasons::termsOfDropsWithoutLaps, EdgesOfSeasons::termsOfOrder);
     }
 
     private static Ghostracer rounds(int count) {

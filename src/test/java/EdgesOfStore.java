@@ -8,22 +8,13 @@ final class EdgesOfStore {
     }
 
     static void check() {
-        base();
-        depth();
-        parts();
-        stored();
-        resting();
-        strike();
-        giveBack();
-        stands();
-        penalty();
-        termsOfWhole();
-        termsOfAgainst();
-        termsOfPlaces();
-        termsOfStriking();
-        termsOfMany();
-        termsOfGivingBack();
-        termsOfStruckOut();
+        Check.parts(EdgesOfStore::base, EdgesOfStore::depth, EdgesOfStore::parts,
+                EdgesOfStore::stored, EdgesOfStore::resting, EdgesOfStore::strike,
+                EdgesOfStore::giveBack, EdgesOfStore::stands, EdgesOfStore::penalty,
+                EdgesOfStore::termsOfWhole, EdgesOfStore::termsOfAgainst,
+                EdgesOfStore::termsOfPlaces, EdgesOfStore::termsOfStriking,
+                EdgesOfStore::termsOfMany, EdgesOfStore::termsOfGivingBack,
+                EdgesOfStore::termsOfStruckOut);
     }
 
     private static void base() {

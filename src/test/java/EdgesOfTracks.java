@@ -7,19 +7,12 @@ final class EdgesOfTracks {
     }
 
     static void check() {
-        newObjectAnswers();
-        newObjectRefuses();
-        track();
-        stretch();
-        stretchNumbers();
-        stretchDriven();
-        stretchTwelve();
-        car();
-        carNumbers();
-        lengthOf();
-        limitAt();
-        termsOfTracks();
-        termsOfCars();
+        Check.parts(EdgesOfTracks::newObjectAnswers, EdgesOfTracks::newObjectRefuses,
+                EdgesOfTracks::track, EdgesOfTracks::stretch, EdgesOfTracks::stretchNumbers,
+                EdgesOfTracks::stretchDriven, EdgesOfTracks::stretchTwelve, EdgesOfTracks::car,
+                EdgesOfTracks::carTop, EdgesOfTracks::carPull, EdgesOfTracks::carGrip,
+                EdgesOfTracks::carIsRefused, EdgesOfTracks::lengthOf, EdgesOfTracks::limitAt,
+                EdgesOfTracks::termsOfTracks, EdgesOfTracks::termsOfCars);
     }
 
     private static Sentence creates() {
@@ -91,9 +84,17 @@ final class EdgesOfTracks {
         });
     }
 
+    private static Ghostracer tracksAlone() {
+        Ghostracer game = new Ghostracer();
+        for (int i = 0; i < 4; i++) {
+            game.track();
+        }
+        return game;
+    }
+
     private static void stretch() {
         Sentence adds = Sentence.of(3, "Adds a stretch to a track, behind the others.");
-        Ghostracer game = Games.fourTracks();
+        Ghostracer game = tracksAlone();
         game.stretch(1, 2, 7);
         game.stretch(1, 1, 3);
         game.stretch(1, 3, 5);
@@ -108,8 +109,8 @@ final class EdgesOfTracks {
         number.due("the largest", 8, game, g -> g.stretch(3, 8, 5));
         number.dueEach("the length of", game, (g, n) -> g.lengthOf(n), 5, 6, 0, 8);
         Sentence returns = Sentence.of(3, "Returns the length of the track.");
-        Ghostracer longest = Games.fourTracks();
-        Ghostracer shortest = Games.fourTracks();
+        Ghostracer longest = tracksAlone();
+        Ghostracer shortest = tracksAlone();
         for (int i = 1; i <= 12; i++) {
             returns.due("the longest", 30 * i, longest, g -> g.stretch(3, 30, 1));
             returns.due("the shortest", i, shortest, g -> g.stretch(0, 1, 9));
@@ -121,13 +122,13 @@ final class EdgesOfTracks {
         Sentence length = Sentence.of(3, "`length`: the length, 1 to 30");
         for (int i = 1; i <= 30; i++) {
             int number = i;
-            Ghostracer game = Games.fourTracks();
+            Ghostracer game = tracksAlone();
             length.due("the length " + i, i, game, g -> g.stretch(2, number, 5));
             length.due("the last place of " + i, 5, game, g -> g.limitAt(2, number - 1));
             length.due("behind " + i, Check.NO_ELEMENT, game, g -> g.limitAt(2, number));
         }
         Sentence limit = Sentence.of(3, "`limit`: the limit, 1 to 9");
-        Ghostracer game = Games.fourTracks();
+        Ghostracer game = tracksAlone();
         for (int i = 1; i <= 9; i++) {
             int number = i;
             limit.due("a limit of " + i, i, game, g -> g.stretch(2, 1, number));
@@ -219,24 +220,45 @@ final class EdgesOfTracks {
         return game.replay(0, ticks, true);
     }
 
-    private static void carNumbers() {
+    private static void carTop() {
         Sentence top = Sentence.of(4, "`top`: the top speed, 1 to 9");
+        for (int i = 1; i <= 9; i++) {
+            int number = i;
+            top.due("a top speed of " + i, 0, new Ghostracer(), g -> g.car(number, 2, 1));
+        }
         for (int i = 2; i <= 9; i++) {
             top.same("the top speed " + i, i, speed(9, i, 4, 0, 3));
         }
         top.due("the top speed 1", 1, Games.lapOn(20, 1, 4, "+".repeat(20)),
                 g -> g.replay(0, 9, true));
+    }
+
+    private static void carPull() {
         Sentence pull = Sentence.of(4, "`pull`: the pull, 1 to 4");
+        for (int i = 1; i <= 4; i++) {
+            int number = i;
+            pull.due("a pull of " + i, 0, new Ghostracer(), g -> g.car(5, number, 1));
+        }
         for (int i = 1; i <= 4; i++) {
             pull.same("the pull " + i, i, speed(9, 9, i, 0, 1));
             pull.same("twice the pull " + i, 2 * i, speed(9, 9, i, 0, 2));
         }
+    }
+
+    private static void carGrip() {
         Sentence grip = Sentence.of(4, "`grip`: the grip, 0 to 3");
+        for (int i = 0; i <= 3; i++) {
+            int number = i;
+            grip.due("a grip of " + i, 0, new Ghostracer(), g -> g.car(5, 2, number));
+        }
         for (int i = 0; i <= 3; i++) {
             grip.same("within the grip " + i, i + 3, speed(3, i + 3, 3, i, 2));
             grip.same("beyond the grip " + i, (i + 4) / 2,
                     speed(3, i + 4, 2, i, 2 + (i + 1) / 2));
         }
+    }
+
+    private static void carIsRefused() {
         Sentence range = Sentence.thrown(4, Check.ARGUMENT, "a number is out of range");
         Check.Setup none = Ghostracer::new;
         range.refusesEach("the top speed", none, (g, n) -> g.car(n, 4, 3), LEAST, -1, 0, 10, 257,

@@ -23,16 +23,29 @@ final class Document {
     private Document() {
     }
 
-    /** The text of each section by its heading; a promise's heading is cut behind its number. */
-    private static Map<String, String> read() {
-        String text;
+    private static String text() {
         try {
-            text = Files.readString(PATH);
+            return Files.readString(PATH);
         } catch (IOException e) {
             throw new UncheckedIOException(e);
         }
+    }
+
+    /** The calls of the first example with their answers, in one line. */
+    static String example() {
+        String[] parts = text().split("```(text)?\\s");
+        for (int i = 1; i < parts.length; i++) {
+            if (parts[i - 1].trim().endsWith("First example:")) {
+                return parts[i].replaceAll("\\s+", " ").trim();
+            }
+        }
+        return "no first example";
+    }
+
+    /** The text of each section by its heading; a promise's heading is cut behind its number. */
+    private static Map<String, String> read() {
         Map<String, String> sections = new TreeMap<>();
-        for (String section : text.split("(?m)^## ")) {
+        for (String section : text().split("(?m)^## ")) {
             int end = section.indexOf('\n');
             String heading = section.substring(0, Math.max(end, 0)).split(":")[0];
             sections.put(heading, plain(section.substring(Math.max(end, 0))));

@@ -1,9 +1,11 @@
 /** The document's first example, call by call. */
 public final class ExampleTest {
     private static Ghostracer game;
+    private static final StringBuilder ASKED = new StringBuilder();
 
     private static void due(String call, Object want, Check.Call asked) {
         Check.due(call, want, game, asked);
+        ASKED.append(ASKED.length() == 0 ? "" : "; ").append(call + " = " + want);
     }
 
     public static void main(String[] args) {
@@ -52,6 +54,7 @@ public final class ExampleTest {
         due("meanTime()", 967.0, g -> g.meanTime());
         due("wipe()", 0, g -> g.wipe());
         due("isSound()", true, g -> g.isSound());
+        Check.same("the document's example", Document.example(), ASKED.append('.'));
         Check.end("ExampleTest");
     }
 }
